@@ -129,9 +129,9 @@ public final class DockBook {
         if (!mayBeCalled(called)) {
             throw new IllegalStateException("the truck can't go to a door now");
         }
+        Door its = doorNumbered(called.door);
         called.state = AT_DOOR;
         called.start = now;
-        Door its = doors[called.door];
         its.truckAtIt = truck;
         its.freeAt = now + called.need;
     }
@@ -168,9 +168,9 @@ public final class DockBook {
         if (leaving.start + leaving.need > now) {
             return 4;
         }
+        Door its = doorNumbered(leaving.door);
         leaving.state = GONE;
         leaving.departure = now;
-        Door its = doors[leaving.door];
         its.truckAtIt = NONE;
         its.freeAt = 0;
         its.departed++;
@@ -344,7 +344,7 @@ public final class DockBook {
         if (truck.state != WAITING || truck.door == NONE || truck.start > now) {
             return false;
         }
-        Door planned = doors[truck.door];
+        Door planned = doorNumbered(truck.door);
         return !planned.isOut && planned.truckAtIt == NONE && now + truck.need <= planned.to;
     }
 
@@ -509,17 +509,24 @@ public final class DockBook {
             return bestStarts[set * FEW + place];
         }
 
-        /** Goes at most FEW deep: each level adds a truck to the set. */
+        /** With add it goes at most FEW levels deep: each adds a truck to the set. */
         private void extend(Door door, Truck[] few, int size, int set, int ready, int cost) {
             keepIfBetter(set, size, cost);
             for (int i = 0; i < size; i++) {
-                int start = (set & (1 << i)) == 0 ? door.startOf(few[i], ready) : NONE;
-                if (start != NONE) {
-                    starts[i] = start;
-                    extend(door, few, size, set | (1 << i), start + few[i].need,
-                            cost + few[i].costAt(start));
+                if ((set & (1 << i)) == 0) {
+                    add(door, few, size, set, i, ready, cost);
                 }
             }
+        }
+
+        private void add(Door door, Truck[] few, int size, int set, int place, int ready, int cost) {
+            Truck added = few[place];
+            int start = door.startOf(added, ready);
+            if (start == NONE) {
+                return;
+            }
+            starts[place] = start;
+            extend(door, few, size, set | (1 << place), start + added.need, cost + added.costAt(start));
         }
 
         private void keepIfBetter(int set, int size, int cost) {
@@ -568,20 +575,24 @@ public final class DockBook {
             bestCost = IMPOSSIBLE;
             choose(doorCount, size, 0, 0);
             for (int i = 0; i < size; i++) {
-                if (best[i] != NONE) {
-                    setAtDoor[best[i]] |= 1 << i;
-                }
-            }
-            for (int i = 0; i < size; i++) {
                 int door = best[i];
-                few[i].setPlan(door, door == NONE ? NONE : orders[door].startIn(setAtDoor[door], i));
+                few[i].setPlan(door, door == NONE ? NONE : orders[door].startIn(bestSetAt(door, size), i));
             }
+        }
+
+        private int bestSetAt(int door, int size) {
+            int set = 0;
+            for (int i = 0; i < size; i++) {
+                set |= best[i] == door ? 1 << i : 0;
+            }
+            return set;
         }
 
         /**
          * Choices are tried in the order in which plans of equal cost come, so a later one must
          * cost less to be better; and another truck never makes those before it cheaper, so a
-         * choice that costs as much already is left. Goes at most FEW deep.
+         * choice that costs as much already is left. With its two helpers it goes at most FEW
+         * levels deep: each gives one truck more its door.
          */
         private void choose(int doorCount, int size, int place, int cost) {
             if (cost >= bestCost) {
@@ -593,13 +604,22 @@ public final class DockBook {
                 return;
             }
             for (int i = 0; i < doorCount; i++) {
-                int set = setAtDoor[i];
-                int more = orders[i].costs[set | (1 << place)] - orders[i].costs[set];
-                setAtDoor[i] = set | (1 << place);
-                chosen[place] = i;
-                choose(doorCount, size, place + 1, cost + more);
-                setAtDoor[i] = set;
+                chooseDoor(i, doorCount, size, place, cost);
             }
+            chooseNothing(doorCount, size, place, cost);
+        }
+
+        private void chooseDoor(int door, int doorCount, int size, int place, int cost) {
+            int set = setAtDoor[door];
+            int setWithIt = set | (1 << place);
+            int[] costs = orders[door].costs;
+            setAtDoor[door] = setWithIt;
+            chosen[place] = door;
+            choose(doorCount, size, place + 1, cost - costs[set] + costs[setWithIt]);
+            setAtDoor[door] = set;
+        }
+
+        private void chooseNothing(int doorCount, int size, int place, int cost) {
             chosen[place] = NONE;
             choose(doorCount, size, place + 1, cost + COST_OF_NOTHING);
         }

@@ -9,6 +9,7 @@ public final class PlanTest {
         promise4LeastCost();
         promise4TiesByDoors();
         promise4TiesByStarts();
+        promise4AllRoomInUse();
         promise4TimesOfDoors();
         promise4ByRule();
         promise4RuleTakesLeastStart();
@@ -90,6 +91,35 @@ public final class PlanTest {
         other.truck(0, 10, 10, 1);
         CHECK.same("two equal trucks", other.assign(3), 10);
         checkPlan(other, 0, 50, 0, 10, 0, 20);
+        // Truck 1, 2, 0 in this order cost 4 as well, but truck 0 starts at 4 then.
+        DockBook three = new DockBook();
+        three.door(1, 0, 100);
+        three.truck(0, 2, 2, 1);
+        three.truck(0, 0, 3, 1);
+        three.truck(0, 1, 1, 1);
+        CHECK.same("three trucks", three.assign(3), 4);
+        checkPlan(three, 0, 2, 0, 4, 0, 1);
+    }
+
+    private static void promise4AllRoomInUse() {
+        DockBook book = new DockBook();
+        for (int i = 0; i < 4; i++) {
+            book.door(1 << i, 0, 30);
+        }
+        for (int i = 0; i < 12; i++) {
+            book.truck(i % 4, 0, 10, 9 - i / 4);
+        }
+        CHECK.same("three trucks at each door", book.assign(5), 4 * (10 + 20));
+        for (int i = 0; i < 12; i++) {
+            CHECK.same("door of truck " + i, book.told(i, 1), i % 4);
+            CHECK.same("start of truck " + i, book.told(i, 2), 20 - i / 4 * 10);
+            CHECK.same("truck at that place", book.order(i % 4, 2 - i / 4), i);
+        }
+        CHECK.same("moved", book.moved(), 12);
+        CHECK.same("bound", book.bound(), 0);
+        CHECK.same("planned", book.known(3, 2), 3);
+        CHECK.same("out", book.out(3, true), 3);
+        CHECK.same("cost then", book.count(7), 3 * (10 + 20) + 3 * 5000);
     }
 
     private static void promise4TimesOfDoors() {
@@ -271,6 +301,7 @@ public final class PlanTest {
         book.truck(1, 0, 10, 1);
         book.truck(0, 0, 20, 1);
         CHECK.refused("nothing planned", NoSuchElementException.class, () -> book.order(0, 0));
+        CHECK.refused("no door for trucks without one", NoSuchElementException.class, () -> book.order(-1, 0));
         book.assign(4);
         CHECK.same("order(0, 0)", book.order(0, 0), 1);
         CHECK.same("order(0, 1)", book.order(0, 1), 3);
