@@ -4,8 +4,10 @@ import java.util.function.IntSupplier;
 /** Long runs of calls, right and wrong ones, with the same answers and states as PlainDocks. */
 public final class RandomRunsTest {
     private static final Check CHECK = new Check("RandomRunsTest");
-    private static final int RUNS = 400;
+    private static final int RUNS = 1500;
+    /** The calls for which an object is promised to answer rightly. */
     private static final int CALLS = 512;
+    private static final int MOST_CALLS_TO_COMPARE_ALL = 190;
     private static final int[] ODD = {-1, Integer.MIN_VALUE, Integer.MAX_VALUE, 12, 301, 2001, 10001};
 
     private final Random random;
@@ -15,6 +17,7 @@ public final class RandomRunsTest {
     private final int span;
     private final int mostNeed;
     private int now = 0;
+    private int callsOfBook = 0;
 
     private RandomRunsTest(long seed) {
         random = new Random(seed);
@@ -31,11 +34,16 @@ public final class RandomRunsTest {
     }
 
     private void run(int seed) {
-        for (int i = 0; i < CALLS && CHECK.wrongSoFar() == 0; i++) {
-            String call = oneCall(i);
-            if (CHECK.wrongSoFar() == 0 && i % 7 == 0) {
-                compareAll(call);
+        String call = "";
+        for (int i = 0; callsOfBook < CALLS - MOST_CALLS_TO_COMPARE_ALL && CHECK.wrongSoFar() == 0; i++) {
+            call = oneCall(i);
+            if (CHECK.wrongSoFar() == 0 && i % 25 == 0) {
+                comparePlans(call);
             }
+        }
+        if (CHECK.wrongSoFar() == 0) {
+            compareAll(call);
+            CHECK.same("within the calls of an object", callsOfBook <= CALLS, true);
         }
         if (CHECK.wrongSoFar() != 0) {
             System.out.println("seed " + seed + ":\n" + calls);
@@ -133,6 +141,11 @@ public final class RandomRunsTest {
         return 0;
     }
 
+    private String answerOfBook(IntSupplier call) {
+        callsOfBook++;
+        return answerOf(call);
+    }
+
     private static String answerOf(IntSupplier call) {
         try {
             return String.valueOf(call.getAsInt());
@@ -142,33 +155,45 @@ public final class RandomRunsTest {
     }
 
     private String compare(String name, IntSupplier got, IntSupplier due) {
-        String answer = answerOf(got);
+        String answer = answerOfBook(got);
         calls.append(name).append(" = ").append(answer).append('\n');
         CHECK.same(name, answer, answerOf(due));
         return name;
     }
 
-    private void compareAll(String call) {
+    private void comparePlans(String call) {
         String behind = " behind " + call;
-        CHECK.same("exact()" + behind, book.exact(), plain.exact());
-        CHECK.same("moved()" + behind, book.moved(), plain.moved());
-        CHECK.same("bound()" + behind, book.bound(), plain.bound());
+        compare("exact()" + behind, () -> bit(book.exact()), () -> bit(plain.exact()));
+        compare("moved()" + behind, book::moved, plain::moved);
+        compare("bound()" + behind, book::bound, plain::bound);
+        compare("count(7)" + behind, () -> book.count(7), () -> plain.count(7));
+        for (int i = 0; i < plain.count(1); i++) {
+            int t = i;
+            compare("told(" + t + ", 2)" + behind, () -> book.told(t, 2), () -> plain.told(t, 2));
+        }
+    }
+
+    private void compareAll(String call) {
+        comparePlans(call);
+        String behind = " behind " + call;
         for (int what = 0; what <= 7; what++) {
             int w = what;
-            CHECK.same("count(" + w + ")" + behind, book.count(w), plain.count(w));
-            for (int t = 0; t < plain.count(1); t++) {
-                CHECK.same("told(" + t + ", " + w + ")" + behind, book.told(t, w), plain.told(t, w));
+            compare("count(" + w + ")" + behind, () -> book.count(w), () -> plain.count(w));
+            for (int i = 0; i < plain.count(1); i++) {
+                int t = i;
+                compare("told(" + t + ", " + w + ")" + behind, () -> book.told(t, w), () -> plain.told(t, w));
             }
-            for (int d = 0; w <= 4 && d < plain.count(0); d++) {
-                CHECK.same("known(" + d + ", " + w + ")" + behind, book.known(d, w), plain.known(d, w));
+            for (int i = 0; w <= 4 && i < plain.count(0); i++) {
+                int d = i;
+                compare("known(" + d + ", " + w + ")" + behind, () -> book.known(d, w), () -> plain.known(d, w));
             }
         }
-        for (int d = 0; d < plain.count(0); d++) {
-            for (int i = 0; i <= plain.known(d, 2); i++) {
-                int door = d;
-                int place = i;
-                CHECK.same("order(" + d + ", " + i + ")" + behind,
-                        answerOf(() -> book.order(door, place)), answerOf(() -> plain.order(door, place)));
+        for (int i = 0; i < plain.count(0); i++) {
+            for (int k = 0; k <= plain.known(i, 2); k++) {
+                int d = i;
+                int place = k;
+                compare("order(" + d + ", " + k + ")" + behind,
+                        () -> book.order(d, place), () -> plain.order(d, place));
             }
         }
     }
